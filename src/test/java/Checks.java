@@ -1,0 +1,48 @@
+/** Counts the checks of one test program and ends it with exit code 1 if one was wrong. */
+final class Checks {
+    interface Call {
+        void make();
+    }
+
+    private static int made = 0;
+    private static int wrong = 0;
+
+    private Checks() {
+    }
+
+    static void same(String what, long got, long due) {
+        made++;
+        if (got != due) {
+            wrong++;
+            System.out.println(what + " answered " + got + ", due is " + due);
+        }
+    }
+
+    static void yes(String what, boolean holds) {
+        same(what, holds ? 1 : 0, 1);
+    }
+
+    /** The call must throw exactly that class (none below it) and leave the state as it was. */
+    static void refuses(String what, FlowComputer x, Class<?> due, Call call) {
+        long before = x.digest();
+        Class<?> thrown = thrownBy(call);
+        yes(what + " threw " + thrown + ", due is " + due, thrown == due);
+        same(what + ": digest after the exception", x.digest(), before);
+    }
+
+    static Class<?> thrownBy(Call call) {
+        try {
+            call.make();
+            return null;
+        } catch (RuntimeException e) {
+            return e.getClass();
+        }
+    }
+
+    static void end() {
+        System.out.println(made + " checks, " + wrong + " wrong");
+        if (wrong > 0 || made == 0) {
+            System.exit(1);
+        }
+    }
+}
