@@ -42,7 +42,6 @@ public final class FlowComputer {
         savedLast = new State();
         savedBefore = new State();
         savedFirst = new State();
-        saved = 0;
     }
 
     // ---- settings

@@ -13,6 +13,7 @@ final class RecordsTest {
     public static void main(String[] args) {
         hourOverFlowTime();
         hourWithoutFlow();
+        meansJustBelow("over a whole hour of flow", new FlowComputer(), 3600);
         hourOfOneFlowingSecond();
         alarms();
         hoursKept();
@@ -46,15 +47,22 @@ final class RecordsTest {
     private static void hourWithoutFlow() {
         FlowComputer x = new FlowComputer();
         x.setCutoff(100000, 100000);
-        Meters.show(x, 0, 25);
-        Meters.show(x, 2, -1);
-        Meters.show(x, 3, -301);
-        x.run(1);
-        Meters.show(x, 0, 24);
-        Meters.show(x, 2, 0);
-        Meters.show(x, 3, -300);
-        x.run(3599);
-        Meters.hour("over all seconds", x, 0, 0, 0, 24, -1, -301, 0, 3600);
+        meansJustBelow("over all seconds", x, 0);
+    }
+
+    /** Each sum is one less than what would give the next mean, so anything left of the hour before would show. */
+    private static void meansJustBelow(String name, FlowComputer x, int flowTime) {
+        for (int i = 0; i < 3; i++) {
+            Meters.show(x, 0, 24);
+            Meters.show(x, 2, -1);
+            Meters.show(x, 3, -301);
+            x.run(1);
+            Meters.show(x, 0, 25);
+            Meters.show(x, 2, 0);
+            Meters.show(x, 3, -300);
+            long mass = x.total(3) + x.run(3599);
+            Meters.hour(name, x, i, mass, flowTime, 24, -1, -301, 0, 3600 * (i + 1));
+        }
     }
 
     private static void hourOfOneFlowingSecond() {

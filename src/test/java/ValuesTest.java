@@ -176,6 +176,9 @@ final class ValuesTest {
         flowFor(x, 30000, 30000, -500, 482423);
         x.setMeter(100000);
         flowFor(x, 30000, 30000, -500, 48242387);
+        flowFor(x, 50, 1, -500, 9690);
+        flowFor(x, 50, 2, -500, 14911);
+        flowFor(x, 50, 0, -500, 0);
         x.setDensity(0, 12);
         flowFor(x, 1666, 5000, 200, 99470);
         flowFor(x, 1667, 5000, 200, 99400);
@@ -229,6 +232,12 @@ final class ValuesTest {
         differentialFor(x, 17320, 29999);
         differentialFor(x, 17321, FlowComputer.NONE);
         differentialFor(x, 1000000000, FlowComputer.NONE);
+        x.setMeter(10000);
+        differentialFor(x, 173202, 29999);
+        differentialFor(x, 173203, 30000);
+        differentialFor(x, 173205, 30000);
+        differentialFor(x, 173206, FlowComputer.NONE);
+        x.setMeter(1000);
         x.setDensity(0, 1);
         Checks.same("with the present settings", x.differentialFor(100), 10000);
         Meters.show(x, 3, 0);
