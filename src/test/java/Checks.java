@@ -6,15 +6,24 @@ final class Checks {
 
     private static int made = 0;
     private static int wrong = 0;
+    private static String test = "";
 
     private Checks() {
+    }
+
+    /** What is checked from now on belongs to the test of that name. */
+    static void begin(String name) {
+        test = name + ": ";
+    }
+
+    static int made() {
+        return made;
     }
 
     static void same(String what, long got, long due) {
         made++;
         if (got != due) {
-            wrong++;
-            System.out.println(what + " answered " + got + ", due is " + due);
+            fail(what + " answered " + got + ", due is " + due);
         }
     }
 
@@ -22,12 +31,21 @@ final class Checks {
         same(what, holds ? 1 : 0, 1);
     }
 
+    static void fail(String message) {
+        wrong++;
+        System.out.println(test + message);
+    }
+
     /** The call must throw exactly that class (none below it) and leave the state as it was. */
     static void refuses(String what, FlowComputer x, Class<?> due, Call call) {
         long before = x.digest();
+        throwsExactly(what, due, call);
+        same(what + ": digest after the exception", x.digest(), before);
+    }
+
+    static void throwsExactly(String what, Class<?> due, Call call) {
         Class<?> thrown = thrownBy(call);
         yes(what + " threw " + thrown + ", due is " + due, thrown == due);
-        same(what + ": digest after the exception", x.digest(), before);
     }
 
     static Class<?> thrownBy(Call call) {
