@@ -183,7 +183,7 @@ final class RecordsTest {
 
     private static void eventsKept() {
         FlowComputer x = new FlowComputer();
-        for (int i = 1; i <= 40; i++) {
+        for (int i = 1; i <= 36; i++) {
             x.run(1);
             if (i % 2 == 0) {
                 x.setMode(0);
@@ -195,7 +195,7 @@ final class RecordsTest {
             Meters.event("oldest after " + i, x, 0, oldest, FlowComputer.CONFIGURATION, oldest % 2 == 0 ? 2 : 7);
             Meters.event("newest after " + i, x, x.events() - 1, i, FlowComputer.CONFIGURATION, i % 2 == 0 ? 2 : 7);
         }
-        Meters.event("the middle one", x, 12, 23, FlowComputer.CONFIGURATION, 7);
+        Meters.event("the middle one", x, 12, 19, FlowComputer.CONFIGURATION, 7);
     }
 
     private static void refused() {
